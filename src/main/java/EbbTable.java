@@ -606,9 +606,10 @@ public final class EbbTable {
         return (levels >> bitsBehind(dimension)) & LEVEL_MASK;
     }
 
+    /** Whether these have in each dimension the level that is asked for, or a greater one. */
     private static boolean reach(int levels, int asked) {
-        for (int dimension = 0; dimension < MAX_DIMENSIONS; dimension++) {
-            if (levelIn(levels, dimension) < levelIn(asked, dimension)) {
+        for (int mask = LEVEL_MASK; mask < ALL_LEVELS; mask <<= LEVEL_BITS) {
+            if ((levels & mask) < (asked & mask)) {
                 return false;
             }
         }
@@ -858,7 +859,7 @@ public final class EbbTable {
 
         /** The first child of a parent whose number is not less than start; -1 without one. */
         private int childFrom(int parent, int start) {
-            for (int member = start; has(member); member++) {
+            for (int member = start; member < size; member++) {
                 if (parents[member] == parent) {
                     return member;
                 }
@@ -879,7 +880,7 @@ public final class EbbTable {
         }
 
         void closeGapAt(int gap) {
-            for (int fact = gap; has(fact) && has(fact + 1); fact++) {
+            for (int fact = gap; fact + 1 < size; fact++) {
                 values[fact] = values[fact + 1];
                 for (int dimension = 0; dimension < MAX_DIMENSIONS; dimension++) {
                     leaves[dimension][fact] = leaves[dimension][fact + 1];
@@ -923,7 +924,7 @@ public final class EbbTable {
         }
 
         void closeGapAt(int gap) {
-            for (int view = gap; has(view) && has(view + 1); view++) {
+            for (int view = gap; view + 1 < size; view++) {
                 levels[view] = levels[view + 1];
                 lines[view] = lines[view + 1];
                 stale[view] = stale[view + 1];

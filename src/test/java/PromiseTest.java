@@ -387,6 +387,25 @@ public final class PromiseTest {
         x.leaveOut(0, 1, true);
         x.move(0, 3, 2);
         Check.due("p10 a leaf moved out from beneath it", 12, x.sum());
+        EbbTable deep = deepStore();
+        deep.leaveOut(0, 0, true);
+        Check.due("p10 a root three levels up", 0, deep.count());
+        deep.leaveOut(0, 0, false);
+        deep.leaveOut(0, 1, true);
+        Check.due("p10 a member two levels up", 4, deep.sum());
+    }
+
+    /** One dimension: 1 and 2 on level 1, 3 and 4 beneath them, then 5 and 6; the facts 3 at 5, 4 at 6. */
+    private static EbbTable deepStore() {
+        EbbTable x = new EbbTable();
+        x.addDimension(3);
+        for (int parent : new int[] {0, 0, 1, 2, 3, 4}) {
+            x.addMember(0, parent);
+        }
+        put(x, 3, 5);
+        put(x, 4, 6);
+        goTo(x, 0);
+        return x;
     }
 
     // ---- the point
@@ -522,6 +541,7 @@ public final class PromiseTest {
         x.leaveOut(0, 0, true);
         Check.due("p17 all are", 0, x.count());
         Check.due("p17 no dimension", 0, new EbbTable().count());
+        Check.due("p17 three levels beneath", 2, deepStore().count());
     }
 
     private static void p18() {
@@ -540,6 +560,10 @@ public final class PromiseTest {
     private static void p19() {
         EbbTable x = store();
         Check.due("p19 all", -4, x.least());
+        x.goTo(0, 3);
+        x.drop(1);
+        Check.due("p19 the first fact", 10, x.least());
+        put(x, -4, 3, 2);
         goTo(x, 5, 0);
         Check.due("p19 beneath 5", 1, x.least());
         goTo(x, 5, 1);
@@ -556,6 +580,10 @@ public final class PromiseTest {
     private static void p20() {
         EbbTable x = store();
         Check.due("p20 all", 10, x.greatest());
+        put(x, 11, 3, 2);
+        goTo(x, 0, 0);
+        Check.due("p20 the last fact", 11, x.greatest());
+        x.drop(5);
         goTo(x, 3, 2);
         Check.due("p20 less than 0", -4, x.greatest());
         goTo(x, 5, 1);
@@ -647,6 +675,11 @@ public final class PromiseTest {
             Check.refused("p24 dimension " + far, INDEX, x, () -> x.ranked(far, 0));
             Check.refused("p24 rank " + far, INDEX, x, () -> x.ranked(0, far));
         }
+        put(x, -30, 4, 1);
+        put(x, -30, 3, 1);
+        goTo(x, 0, 0);
+        Check.due("p24 less than 0: -23 is the greatest", 1, x.ranked(0, 0));
+        Check.due("p24 less than 0: -24 behind it", 0, x.ranked(0, 1));
         x.goTo(0, 4);
         Check.refused("p24 a leaf has none", INDEX, x, () -> x.ranked(0, 0));
         Check.due("p24 of 23 equal ones the last", 22, fullDimension().ranked(0, 22));
@@ -766,6 +799,10 @@ public final class PromiseTest {
         Check.due("p29 anew", 2, x.setAxes(0, 1, 1, 1));
         Check.due("p29 of the level 0", 1, x.setAxes(0, 0, 1, 0));
         Check.due("p29 of the level 2", 3, x.setAxes(0, 2, 1, 0));
+        Check.due("p29 one column of the level 0", 1, x.columns());
+        x.setAxes(0, 1, 1, 1);
+        Check.due("p29 columns of the dimension 1", 3, x.columns());
+        Check.due("p29 rows of the dimension 0", 2, x.rows());
         x.goTo(0, 2);
         Check.due("p29 they stay", 1, x.rows());
         Check.due("p29 above the point is none", 0, x.setAxes(0, 0, 1, 1));
@@ -884,6 +921,11 @@ public final class PromiseTest {
         Check.due("p34 the first that is not bare", 3, x.columnMember(0));
         Check.due("p34 the second", 4, x.columnMember(1));
         Check.refused("p34 a bare one", INDEX, x, () -> x.columnMember(2));
+        x.setAxes(0, 0, 1, 1);
+        goTo(x, 5, 0);
+        Check.refused("p34 above the point is no row", INDEX, x, () -> x.columnMember(0));
+        x.setAxes(0, 2, 1, 1);
+        Check.due("p34 of the dimension 1", 3, x.columnMember(0));
     }
 
     private static void p35() {
@@ -912,6 +954,36 @@ public final class PromiseTest {
         Check.due("p35 the only cell", 6, x.cell(0, 0));
         Check.refused("p35 a bare column", INDEX, x, () -> x.cell(0, 1));
         theThirdDimensionCounts();
+        linesAheadAreBare();
+        droppedFactsAreInNoCell();
+    }
+
+    private static void linesAheadAreBare() {
+        EbbTable x = store();
+        x.setBare(true);
+        x.setAxes(0, 2, 1, 1);
+        x.leaveOut(0, 3, true);
+        int[][] due = {{0, 10}, {6, 0}};
+        for (int row = 0; row < 2; row++) {
+            for (int column = 0; column < 2; column++) {
+                Check.due("p35 behind bare ones " + row + ", " + column, due[row][column], x.cell(row, column));
+            }
+        }
+        x.leaveOut(0, 3, false);
+        x.leaveOut(1, 1, true);
+        Check.due("p35 bare columns ahead, bare rows not", -4, x.cell(0, 0));
+        Check.due("p35 the columns behind", 10, x.cell(1, 1));
+    }
+
+    private static void droppedFactsAreInNoCell() {
+        EbbTable x = store();
+        x.setAxes(0, 1, 1, 1);
+        x.drop(4);
+        Check.due("p35 less what is dropped", 9, x.cell(0, 2));
+        EbbTable full = fullOfFacts();
+        goTo(full, 0, 0);
+        full.setAxes(0, 1, 1, 1);
+        Check.due("p35 of 80 facts", 79 * 40, full.cell(0, 0));
     }
 
     private static void theThirdDimensionCounts() {
@@ -1000,6 +1072,10 @@ public final class PromiseTest {
         x.move(0, 4, 1);
         Check.due("p38 a leaf moved", 1, x.cellCount());
         Check.due("p38 without facts", 0, bareStore().cellCount());
+        EbbTable deep = deepStore();
+        Check.due("p38 three levels up they are one", 1, deep.cellCount());
+        deep.setLevel(0, 1);
+        Check.due("p38 two levels up they are two", 2, deep.cellCount());
         Check.due("p38 without dimensions", 0, new EbbTable().cellCount());
         EbbTable four = fourDimensions();
         setLevels(four, 3, 3, 3, 3);
@@ -1159,6 +1235,16 @@ public final class PromiseTest {
         Check.due("p44 by move to the same parent, without facts", true, x.isStale(0));
         x.keep();
         Check.due("p44 a new one is not", false, x.isStale(1));
+        for (int view = 2; view < 6; view++) {
+            x.keep();
+        }
+        x.drop(0);
+        for (int view = 0; view < 6; view++) {
+            Check.due("p44 each of 6: " + view, true, x.isStale(view));
+        }
+        while (x.views() > 2) {
+            x.dropView(2);
+        }
         Check.refused("p44 no such view", INDEX, x, () -> x.isStale(2));
         for (int far : FAR) {
             Check.refused("p44 view " + far, INDEX, x, () -> x.isStale(far));
