@@ -81,55 +81,7 @@ public final class PromiseTest {
         p49();
     }
 
-    // ---- stores that the tests begin with
-
-    /**
-     * Dimension 0 has the levels 1 (members 1, 2) and 2 (3 and 5 beneath 1, 4 beneath 2), dimension 1 the
-     * level 1 (members 1, 2, 3).
-     */
-    private static EbbTable bareStore() {
-        EbbTable x = new EbbTable();
-        x.addDimension(2);
-        x.addDimension(1);
-        x.addMember(0, 0);
-        x.addMember(0, 0);
-        x.addMember(0, 1);
-        x.addMember(0, 2);
-        x.addMember(0, 1);
-        x.addMember(1, 0);
-        x.addMember(1, 0);
-        x.addMember(1, 0);
-        return x;
-    }
-
-    /** The bare store with the facts 10 at (3, 1), -4 at (3, 2), 6 at (4, 2), 9 and 1 at (5, 3). */
-    private static EbbTable store() {
-        EbbTable x = bareStore();
-        put(x, 10, 3, 1);
-        put(x, -4, 3, 2);
-        put(x, 6, 4, 2);
-        put(x, 9, 5, 3);
-        put(x, 1, 5, 3);
-        goTo(x, 0, 0);
-        return x;
-    }
-
-    private static void goTo(EbbTable x, int... members) {
-        for (int d = 0; d < members.length; d++) {
-            x.goTo(d, members[d]);
-        }
-    }
-
-    private static int put(EbbTable x, int value, int... leaves) {
-        goTo(x, leaves);
-        return x.add(value);
-    }
-
-    private static void setLevels(EbbTable x, int... levels) {
-        for (int d = 0; d < levels.length; d++) {
-            x.setLevel(d, levels[d]);
-        }
-    }
+    // ---- dimensions
 
     private static EbbTable fullDimension() {
         EbbTable x = new EbbTable();
@@ -139,8 +91,6 @@ public final class PromiseTest {
         }
         return x;
     }
-
-    // ---- dimensions
 
     private static void p01() {
         EbbTable x = new EbbTable();
@@ -178,14 +128,14 @@ public final class PromiseTest {
     }
 
     private static void whatAddDimensionClears() {
-        EbbTable x = store();
-        setLevels(x, 2, 1);
+        EbbTable x = Stores.small();
+        Stores.setLevels(x, 2, 1);
         x.keep();
         x.setAxes(0, 1, 1, 1);
         x.setBare(true);
         x.leaveOut(0, 3, true);
         x.leaveOut(1, 0, true);
-        goTo(x, 1, 2);
+        Stores.goTo(x, 1, 2);
         Check.due("p02 the third", 2, x.addDimension(1));
         Check.due("p02 facts are gone", 0, x.facts());
         Check.due("p02 views are gone", 0, x.views());
@@ -200,7 +150,7 @@ public final class PromiseTest {
         Check.due("p02 LEVELS stay in 1", 1, x.setLevel(1, 1));
         Check.due("p02 LEVELS of the new one", 0, x.setLevel(2, 0));
         x.addMember(2, 0);
-        Check.due("p02 facts begin anew", 0, put(x, 5, 3, 1, 1));
+        Check.due("p02 facts begin anew", 0, Stores.put(x, 5, 3, 1, 1));
         Check.due("p02 and nothing hides them", 5, x.sum());
     }
 
@@ -228,7 +178,7 @@ public final class PromiseTest {
     }
 
     private static void p04() {
-        EbbTable x = store();
+        EbbTable x = Stores.small();
         Check.due("p04 parent before", 1, x.move(0, 5, 2));
         Check.due("p04 parent now", 2, x.parentOf(0, 5));
         Check.due("p04 back", 2, x.move(0, 5, 1));
@@ -259,7 +209,7 @@ public final class PromiseTest {
         for (int parent : new int[] {0, 0, 1, 2, 3}) {
             x.addMember(0, parent);
         }
-        put(x, 7, 5);
+        Stores.put(x, 7, 5);
         x.goTo(0, 2);
         Check.due("p04 nothing there yet", 0, x.sum());
         Check.due("p04 a member with a leaf", 1, x.move(0, 3, 2));
@@ -280,7 +230,7 @@ public final class PromiseTest {
     }
 
     private static void p06() {
-        EbbTable x = bareStore();
+        EbbTable x = Stores.withoutFacts();
         Check.due("p06 of 0", 6, x.members(0));
         Check.due("p06 of 1", 4, x.members(1));
         Check.refused("p06 no such dimension", INDEX, x, () -> x.members(2));
@@ -291,7 +241,7 @@ public final class PromiseTest {
     }
 
     private static void p07() {
-        EbbTable x = bareStore();
+        EbbTable x = Stores.withoutFacts();
         Check.due("p07 of the root", -1, x.parentOf(0, 0));
         Check.due("p07 of 2", 0, x.parentOf(0, 2));
         Check.due("p07 of 4", 2, x.parentOf(0, 4));
@@ -306,7 +256,7 @@ public final class PromiseTest {
     }
 
     private static void p08() {
-        EbbTable x = bareStore();
+        EbbTable x = Stores.withoutFacts();
         Check.due("p08 of the root", 0, x.levelOf(0, 0));
         Check.due("p08 of 2", 1, x.levelOf(0, 2));
         Check.due("p08 of 4", 2, x.levelOf(0, 4));
@@ -319,7 +269,7 @@ public final class PromiseTest {
     }
 
     private static void p09() {
-        EbbTable x = bareStore();
+        EbbTable x = Stores.withoutFacts();
         Check.due("p09 the root", 0, x.memberAt(0, 0, 0));
         Check.due("p09 second on 1", 2, x.memberAt(0, 1, 1));
         int[] leaves = {3, 5, 4};
@@ -364,7 +314,7 @@ public final class PromiseTest {
     }
 
     private static void p10() {
-        EbbTable x = store();
+        EbbTable x = Stores.small();
         Check.due("p10 not before", false, x.leaveOut(0, 1, true));
         Check.due("p10 a member with leaves", 6, x.sum());
         Check.due("p10 it was", true, x.leaveOut(0, 1, true));
@@ -402,16 +352,16 @@ public final class PromiseTest {
         for (int parent : new int[] {0, 0, 1, 2, 3, 4}) {
             x.addMember(0, parent);
         }
-        put(x, 3, 5);
-        put(x, 4, 6);
-        goTo(x, 0);
+        Stores.put(x, 3, 5);
+        Stores.put(x, 4, 6);
+        Stores.goTo(x, 0);
         return x;
     }
 
     // ---- the point
 
     private static void p11() {
-        EbbTable x = store();
+        EbbTable x = Stores.small();
         Check.due("p11 from the root", 0, x.goTo(0, 3));
         Check.due("p11 from 3", 3, x.goTo(0, 1));
         Check.due("p11 to the same", 1, x.goTo(0, 1));
@@ -427,7 +377,7 @@ public final class PromiseTest {
     }
 
     private static void p12() {
-        EbbTable x = bareStore();
+        EbbTable x = Stores.withoutFacts();
         x.goTo(0, 5);
         Check.due("p12 to its parent", 1, x.goUp(0));
         Check.due("p12 to the root", 0, x.goUp(0));
@@ -443,9 +393,9 @@ public final class PromiseTest {
     }
 
     private static void p13() {
-        EbbTable x = bareStore();
+        EbbTable x = Stores.withoutFacts();
         Check.due("p13 the root at first", 0, x.pointOf(1));
-        goTo(x, 4, 2);
+        Stores.goTo(x, 4, 2);
         Check.due("p13 of 0", 4, x.pointOf(0));
         Check.due("p13 of 1", 2, x.pointOf(1));
         Check.refused("p13 no such dimension", INDEX, x, () -> x.pointOf(2));
@@ -458,13 +408,13 @@ public final class PromiseTest {
         EbbTable x = new EbbTable();
         Check.refused("p14 without dimensions", STATE, x, () -> x.add(0));
         Check.refused("p14 without dimensions, too great", ARGUMENT, x, () -> x.add(10001));
-        EbbTable y = bareStore();
+        EbbTable y = Stores.withoutFacts();
         Check.refused("p14 at the roots", STATE, y, () -> y.add(1));
-        goTo(y, 3, 0);
+        Stores.goTo(y, 3, 0);
         Check.refused("p14 at one root", STATE, y, () -> y.add(1));
-        goTo(y, 1, 1);
+        Stores.goTo(y, 1, 1);
         Check.refused("p14 at one that is no leaf", STATE, y, () -> y.add(1));
-        goTo(y, 3, 1);
+        Stores.goTo(y, 3, 1);
         Check.due("p14 greatest", 0, y.add(10000));
         Check.due("p14 least", 1, y.add(-10000));
         Check.due("p14 nothing", 2, y.add(0));
@@ -484,15 +434,15 @@ public final class PromiseTest {
     }
 
     private static void p15() {
-        EbbTable x = store();
+        EbbTable x = Stores.small();
         Check.due("p15 in the middle", -4, x.drop(1));
         Check.due("p15 four are left", 4, x.facts());
         Check.due("p15 the next has its number", 6, x.drop(1));
         Check.due("p15 the last", 1, x.drop(2));
         Check.due("p15 what is left", 19, x.sum());
-        goTo(x, 5, 3);
+        Stores.goTo(x, 5, 3);
         Check.due("p15 leaves moved up with values", 9, x.sum());
-        goTo(x, 0, 0);
+        Stores.goTo(x, 0, 0);
         Check.refused("p15 no such fact", INDEX, x, () -> x.drop(2));
         for (int far : FAR) {
             Check.refused("p15 fact " + far, INDEX, x, () -> x.drop(far));
@@ -507,8 +457,8 @@ public final class PromiseTest {
     }
 
     private static EbbTable fullOfFacts() {
-        EbbTable x = bareStore();
-        goTo(x, 3, 1);
+        EbbTable x = Stores.withoutFacts();
+        Stores.goTo(x, 3, 1);
         for (int fact = 0; fact < 80; fact++) {
             x.add(fact);
         }
@@ -516,7 +466,7 @@ public final class PromiseTest {
     }
 
     private static void p16() {
-        EbbTable x = store();
+        EbbTable x = Stores.small();
         Check.due("p16 all", 5, x.facts());
         x.leaveOut(0, 0, true);
         x.goTo(0, 2);
@@ -527,15 +477,15 @@ public final class PromiseTest {
     }
 
     private static void p17() {
-        EbbTable x = store();
+        EbbTable x = Stores.small();
         Check.due("p17 all", 5, x.count());
-        goTo(x, 1, 0);
+        Stores.goTo(x, 1, 0);
         Check.due("p17 beneath 1", 4, x.count());
-        goTo(x, 1, 3);
+        Stores.goTo(x, 1, 3);
         Check.due("p17 beneath 1 and 3", 2, x.count());
-        goTo(x, 4, 1);
+        Stores.goTo(x, 4, 1);
         Check.due("p17 none there", 0, x.count());
-        goTo(x, 3, 0);
+        Stores.goTo(x, 3, 0);
         x.leaveOut(1, 1, true);
         Check.due("p17 one is left out", 1, x.count());
         x.leaveOut(0, 0, true);
@@ -545,11 +495,11 @@ public final class PromiseTest {
     }
 
     private static void p18() {
-        EbbTable x = store();
+        EbbTable x = Stores.small();
         Check.due("p18 all", 22, x.sum());
-        goTo(x, 3, 0);
+        Stores.goTo(x, 3, 0);
         Check.due("p18 beneath 3", 6, x.sum());
-        goTo(x, 0, 2);
+        Stores.goTo(x, 0, 2);
         Check.due("p18 beneath 2", 2, x.sum());
         x.leaveOut(0, 2, true);
         Check.due("p18 less what is left out", -4, x.sum());
@@ -558,57 +508,57 @@ public final class PromiseTest {
     }
 
     private static void p19() {
-        EbbTable x = store();
+        EbbTable x = Stores.small();
         Check.due("p19 all", -4, x.least());
         x.goTo(0, 3);
         x.drop(1);
         Check.due("p19 the first fact", 10, x.least());
-        put(x, -4, 3, 2);
-        goTo(x, 5, 0);
+        Stores.put(x, -4, 3, 2);
+        Stores.goTo(x, 5, 0);
         Check.due("p19 beneath 5", 1, x.least());
-        goTo(x, 5, 1);
+        Stores.goTo(x, 5, 1);
         Check.due("p19 without any", 0, x.least());
-        goTo(x, 0, 0);
+        Stores.goTo(x, 0, 0);
         x.leaveOut(0, 3, true);
         Check.due("p19 less what is left out", 1, x.least());
-        put(x, 10000, 4, 1);
+        Stores.put(x, 10000, 4, 1);
         Check.due("p19 the greatest there is", 10000, x.least());
-        put(x, -10000, 4, 1);
+        Stores.put(x, -10000, 4, 1);
         Check.due("p19 the least there is", -10000, x.least());
     }
 
     private static void p20() {
-        EbbTable x = store();
+        EbbTable x = Stores.small();
         Check.due("p20 all", 10, x.greatest());
-        put(x, 11, 3, 2);
-        goTo(x, 0, 0);
+        Stores.put(x, 11, 3, 2);
+        Stores.goTo(x, 0, 0);
         Check.due("p20 the last fact", 11, x.greatest());
         x.drop(5);
-        goTo(x, 3, 2);
+        Stores.goTo(x, 3, 2);
         Check.due("p20 less than 0", -4, x.greatest());
-        goTo(x, 5, 1);
+        Stores.goTo(x, 5, 1);
         Check.due("p20 without any", 0, x.greatest());
-        goTo(x, 0, 0);
+        Stores.goTo(x, 0, 0);
         x.leaveOut(0, 3, true);
         Check.due("p20 less what is left out", 9, x.greatest());
-        put(x, -10000, 4, 1);
+        Stores.put(x, -10000, 4, 1);
         Check.due("p20 the least there is", -10000, x.greatest());
-        put(x, 10000, 4, 1);
+        Stores.put(x, 10000, 4, 1);
         Check.due("p20 the greatest there is", 10000, x.greatest());
     }
 
     private static void p21() {
-        EbbTable x = store();
+        EbbTable x = Stores.small();
         Check.due("p21 all", 22.0 / 5, x.mean());
-        goTo(x, 5, 0);
+        Stores.goTo(x, 5, 0);
         Check.due("p21 of two", 5.0, x.mean());
-        goTo(x, 0, 2);
+        Stores.goTo(x, 0, 2);
         Check.due("p21 of 6 and -4", 1.0, x.mean());
-        goTo(x, 5, 1);
+        Stores.goTo(x, 5, 1);
         Check.due("p21 without any", 0.0, x.mean());
-        put(x, -1, 5, 1);
-        put(x, -1, 5, 1);
-        put(x, 1, 5, 1);
+        Stores.put(x, -1, 5, 1);
+        Stores.put(x, -1, 5, 1);
+        Stores.put(x, 1, 5, 1);
         Check.due("p21 not cut", -1.0 / 3, x.mean());
         x.leaveOut(0, 5, true);
         Check.due("p21 less what is left out", 0.0, x.mean());
@@ -618,7 +568,7 @@ public final class PromiseTest {
     // ---- what is beneath the point
 
     private static void p22() {
-        EbbTable x = store();
+        EbbTable x = Stores.small();
         Check.due("p22 of the root", 2, x.children(0));
         Check.due("p22 of the other root", 3, x.children(1));
         x.goTo(0, 1);
@@ -638,11 +588,11 @@ public final class PromiseTest {
     }
 
     private static void p23() {
-        EbbTable x = store();
+        EbbTable x = Stores.small();
         Check.due("p23 beneath 1", 16, x.sumOf(0, 0));
         Check.due("p23 beneath 2", 6, x.sumOf(0, 1));
         Check.due("p23 in the other", 10, x.sumOf(1, 2));
-        goTo(x, 1, 2);
+        Stores.goTo(x, 1, 2);
         Check.due("p23 at the point", -4, x.sumOf(0, 0));
         Check.due("p23 of none", 0, x.sumOf(0, 1));
         Check.due("p23 the point stays", 1, x.pointOf(0));
@@ -658,7 +608,7 @@ public final class PromiseTest {
     }
 
     private static void p24() {
-        EbbTable x = store();
+        EbbTable x = Stores.small();
         Check.due("p24 the greatest", 0, x.ranked(0, 0));
         Check.due("p24 the other", 1, x.ranked(0, 1));
         Check.due("p24 equal: the smaller number", 0, x.ranked(1, 0));
@@ -666,8 +616,8 @@ public final class PromiseTest {
         Check.due("p24 the least", 1, x.ranked(1, 2));
         x.leaveOut(0, 5, true);
         Check.due("p24 equal now", 0, x.ranked(0, 0));
-        put(x, 1, 4, 1);
-        goTo(x, 0, 0);
+        Stores.put(x, 1, 4, 1);
+        Stores.goTo(x, 0, 0);
         Check.due("p24 the second is the greatest", 1, x.ranked(0, 0));
         Check.refused("p24 not so many children", INDEX, x, () -> x.ranked(0, 2));
         Check.refused("p24 no such dimension", INDEX, x, () -> x.ranked(2, 0));
@@ -675,9 +625,9 @@ public final class PromiseTest {
             Check.refused("p24 dimension " + far, INDEX, x, () -> x.ranked(far, 0));
             Check.refused("p24 rank " + far, INDEX, x, () -> x.ranked(0, far));
         }
-        put(x, -30, 4, 1);
-        put(x, -30, 3, 1);
-        goTo(x, 0, 0);
+        Stores.put(x, -30, 4, 1);
+        Stores.put(x, -30, 3, 1);
+        Stores.goTo(x, 0, 0);
         Check.due("p24 less than 0: -23 is the greatest", 1, x.ranked(0, 0));
         Check.due("p24 less than 0: -24 behind it", 0, x.ranked(0, 1));
         x.goTo(0, 4);
@@ -686,7 +636,7 @@ public final class PromiseTest {
     }
 
     private static void p25() {
-        EbbTable x = store();
+        EbbTable x = Stores.small();
         Check.due("p25 the first", 10, x.running(1, 0));
         Check.due("p25 with the second", 12, x.running(1, 1));
         Check.due("p25 all", 22, x.running(1, 2));
@@ -703,19 +653,19 @@ public final class PromiseTest {
     }
 
     private static void p26() {
-        EbbTable x = store();
+        EbbTable x = Stores.small();
         Check.due("p26 16 of 22", 727, x.share(0, 0));
         Check.due("p26 6 of 22", 272, x.share(0, 1));
-        put(x, -30, 4, 1);
-        goTo(x, 0, 0);
+        Stores.put(x, -30, 4, 1);
+        Stores.goTo(x, 0, 0);
         Check.due("p26 more than all, of less than 0", -2000, x.share(0, 0));
         Check.due("p26 -24 of -8", 3000, x.share(0, 1));
         Check.due("p26 -20 of -8", 2500, x.share(1, 0));
-        put(x, 1, 4, 1);
-        goTo(x, 0, 0);
+        Stores.put(x, 1, 4, 1);
+        Stores.goTo(x, 0, 0);
         Check.due("p26 cut towards 0: 16 of -7", -2285, x.share(0, 0));
-        put(x, 7, 4, 1);
-        goTo(x, 0, 0);
+        Stores.put(x, 7, 4, 1);
+        Stores.goTo(x, 0, 0);
         Check.due("p26 the sum is 0", 0, x.share(0, 0));
         Check.refused("p26 no such child", INDEX, x, () -> x.share(0, 2));
         Check.refused("p26 no such dimension", INDEX, x, () -> x.share(2, 0));
@@ -728,7 +678,7 @@ public final class PromiseTest {
     }
 
     private static void p27() {
-        EbbTable x = store();
+        EbbTable x = Stores.small();
         Check.due("p27 727 thousandths: 16 of 22 are less", 1, x.fewest(0, 727));
         Check.due("p27 728 thousandths", 2, x.fewest(0, 728));
         Check.due("p27 one", 1, x.fewest(0, 1));
@@ -742,37 +692,37 @@ public final class PromiseTest {
         for (int far : FAR) {
             Check.refused("p27 dimension " + far, INDEX, x, () -> x.fewest(far, 1));
         }
-        goTo(x, 3, 0);
+        Stores.goTo(x, 3, 0);
         Check.due("p27 a leaf has no children to have it", -1, x.fewest(0, 1));
-        goTo(x, 3, 2);
+        Stores.goTo(x, 3, 2);
         Check.due("p27 less than 0: none is enough", 0, x.fewest(0, 1000));
-        goTo(x, 4, 1);
+        Stores.goTo(x, 4, 1);
         Check.due("p27 without any", 0, x.fewest(0, 1000));
-        goTo(x, 0, 2);
+        Stores.goTo(x, 0, 2);
         Check.due("p27 the first has more than all", 1, x.fewest(0, 1000));
-        EbbTable big = bareStore();
-        goTo(big, 3, 1);
+        EbbTable big = Stores.withoutFacts();
+        Stores.goTo(big, 3, 1);
         for (int fact = 0; fact < 80; fact++) {
             big.add(10000);
         }
-        goTo(big, 0, 0);
+        Stores.goTo(big, 0, 0);
         Check.due("p27 the greatest sum", 1, big.fewest(0, 1000));
     }
 
     private static void p28() {
-        EbbTable x = store();
+        EbbTable x = Stores.small();
         Check.due("p28 by 16 and 10", 5, x.drill(0));
         Check.due("p28 the point is there", 5, x.pointOf(0));
         Check.due("p28 the other stays", 0, x.pointOf(1));
         Check.due("p28 a leaf already", 5, x.drill(0));
-        goTo(x, 0, 1);
+        Stores.goTo(x, 0, 1);
         Check.due("p28 at the point", 3, x.drill(0));
-        goTo(x, 0, 2);
+        Stores.goTo(x, 0, 2);
         Check.due("p28 by 6", 4, x.drill(0));
-        goTo(x, 1, 0);
+        Stores.goTo(x, 1, 0);
         x.leaveOut(0, 5, true);
         Check.due("p28 less what is left out", 3, x.drill(0));
-        goTo(x, 0, 0);
+        Stores.goTo(x, 0, 0);
         x.leaveOut(0, 0, true);
         Check.due("p28 equal: the smaller number", 3, x.drill(0));
         x.goTo(0, 0);
@@ -794,7 +744,7 @@ public final class PromiseTest {
     // ---- tables
 
     private static void p29() {
-        EbbTable x = store();
+        EbbTable x = Stores.small();
         Check.due("p29 rows", 3, x.setAxes(1, 1, 0, 1));
         Check.due("p29 anew", 2, x.setAxes(0, 1, 1, 1));
         Check.due("p29 of the level 0", 1, x.setAxes(0, 0, 1, 0));
@@ -822,16 +772,16 @@ public final class PromiseTest {
             Check.refused("p29 columns " + far, INDEX, x, () -> x.setAxes(0, 0, far, 0));
             Check.refused("p29 column level " + far, INDEX, x, () -> x.setAxes(0, 0, 1, far));
         }
-        EbbTable bare = store();
+        EbbTable bare = Stores.small();
         Check.refused("p29 refused ones set none", ARGUMENT, bare, () -> bare.setAxes(1, 0, 1, 0));
     }
 
     private static void p30() {
-        EbbTable x = store();
+        EbbTable x = Stores.small();
         Check.due("p30 not at first", false, x.setBare(true));
         Check.due("p30 they were", true, x.setBare(true));
         x.setAxes(1, 1, 0, 2);
-        goTo(x, 2, 0);
+        Stores.goTo(x, 2, 0);
         Check.due("p30 one row has facts", 1, x.rows());
         Check.due("p30 they were still", true, x.setBare(false));
         Check.due("p30 all rows again", 3, x.rows());
@@ -839,7 +789,7 @@ public final class PromiseTest {
     }
 
     private static void p31() {
-        EbbTable x = store();
+        EbbTable x = Stores.small();
         Check.refused("p31 no axes", STATE, x, x::rows);
         x.setAxes(0, 2, 1, 1);
         Check.due("p31 all leaves", 3, x.rows());
@@ -861,7 +811,7 @@ public final class PromiseTest {
     }
 
     private static void p32() {
-        EbbTable x = store();
+        EbbTable x = Stores.small();
         Check.refused("p32 no axes", STATE, x, x::columns);
         x.setAxes(1, 1, 0, 2);
         Check.due("p32 all leaves", 3, x.columns());
@@ -884,7 +834,7 @@ public final class PromiseTest {
     }
 
     private static void p33() {
-        EbbTable x = store();
+        EbbTable x = Stores.small();
         Check.refused("p33 no axes", STATE, x, () -> x.rowMember(0));
         Check.refused("p33 no axes and no row", STATE, x, () -> x.rowMember(-1));
         x.setAxes(0, 2, 1, 1);
@@ -904,7 +854,7 @@ public final class PromiseTest {
     }
 
     private static void p34() {
-        EbbTable x = store();
+        EbbTable x = Stores.small();
         Check.refused("p34 no axes", STATE, x, () -> x.columnMember(0));
         Check.refused("p34 no axes and no column", STATE, x, () -> x.columnMember(-1));
         x.setAxes(1, 1, 0, 2);
@@ -922,14 +872,14 @@ public final class PromiseTest {
         Check.due("p34 the second", 4, x.columnMember(1));
         Check.refused("p34 a bare one", INDEX, x, () -> x.columnMember(2));
         x.setAxes(0, 0, 1, 1);
-        goTo(x, 5, 0);
+        Stores.goTo(x, 5, 0);
         Check.refused("p34 above the point is no row", INDEX, x, () -> x.columnMember(0));
         x.setAxes(0, 2, 1, 1);
         Check.due("p34 of the dimension 1", 3, x.columnMember(0));
     }
 
     private static void p35() {
-        EbbTable x = store();
+        EbbTable x = Stores.small();
         Check.refused("p35 no axes", STATE, x, () -> x.cell(0, 0));
         Check.refused("p35 no axes and no row", STATE, x, () -> x.cell(-1, 0));
         x.setAxes(1, 1, 0, 1);
@@ -959,7 +909,7 @@ public final class PromiseTest {
     }
 
     private static void linesAheadAreBare() {
-        EbbTable x = store();
+        EbbTable x = Stores.small();
         x.setBare(true);
         x.setAxes(0, 2, 1, 1);
         x.leaveOut(0, 3, true);
@@ -976,24 +926,24 @@ public final class PromiseTest {
     }
 
     private static void droppedFactsAreInNoCell() {
-        EbbTable x = store();
+        EbbTable x = Stores.small();
         x.setAxes(0, 1, 1, 1);
         x.drop(4);
         Check.due("p35 less what is dropped", 9, x.cell(0, 2));
         EbbTable full = fullOfFacts();
-        goTo(full, 0, 0);
+        Stores.goTo(full, 0, 0);
         full.setAxes(0, 1, 1, 1);
         Check.due("p35 of 80 facts", 79 * 40, full.cell(0, 0));
     }
 
     private static void theThirdDimensionCounts() {
-        EbbTable x = bareStore();
+        EbbTable x = Stores.withoutFacts();
         x.addDimension(1);
         x.addMember(2, 0);
         x.addMember(2, 0);
-        put(x, 5, 3, 1, 1);
-        put(x, 7, 3, 1, 2);
-        goTo(x, 0, 0, 0);
+        Stores.put(x, 5, 3, 1, 1);
+        Stores.put(x, 7, 3, 1, 2);
+        Stores.goTo(x, 0, 0, 0);
         x.setAxes(0, 1, 1, 1);
         Check.due("p35 all of the third", 12, x.cell(0, 0));
         x.goTo(2, 2);
@@ -1005,7 +955,7 @@ public final class PromiseTest {
     }
 
     private static void p36() {
-        EbbTable x = store();
+        EbbTable x = Stores.small();
         Check.refused("p36 no axes", STATE, x, () -> x.peak(0));
         Check.refused("p36 no axes and no row", STATE, x, () -> x.peak(-1));
         x.setAxes(1, 1, 0, 1);
@@ -1017,8 +967,8 @@ public final class PromiseTest {
         for (int far : FAR) {
             Check.refused("p36 row " + far, INDEX, x, () -> x.peak(far));
         }
-        put(x, -9, 4, 2);
-        goTo(x, 0, 0);
+        Stores.put(x, -9, 4, 2);
+        Stores.goTo(x, 0, 0);
         Check.due("p36 less than 0: -4 and -3", 1, x.peak(1));
         x.setAxes(1, 1, 0, 0);
         x.goTo(0, 1);
@@ -1034,7 +984,7 @@ public final class PromiseTest {
     // ---- views
 
     private static void p37() {
-        EbbTable x = store();
+        EbbTable x = Stores.small();
         Check.due("p37 0 at first", 0, x.setLevel(0, 2));
         Check.due("p37 2 before", 2, x.setLevel(0, 1));
         Check.due("p37 the other is 0", 0, x.setLevel(1, 1));
@@ -1057,32 +1007,32 @@ public final class PromiseTest {
     }
 
     private static void p38() {
-        EbbTable x = store();
+        EbbTable x = Stores.small();
         int[][] due = {{1, 3}, {2, 4}, {3, 4}};
         for (int first = 0; first <= 2; first++) {
             for (int second = 0; second <= 1; second++) {
-                setLevels(x, first, second);
+                Stores.setLevels(x, first, second);
                 Check.due("p38 LEVELS " + first + ", " + second, due[first][second], x.cellCount());
             }
         }
-        goTo(x, 4, 1);
+        Stores.goTo(x, 4, 1);
         x.leaveOut(0, 0, true);
         Check.due("p38 of all facts", 4, x.cellCount());
-        setLevels(x, 1, 0);
+        Stores.setLevels(x, 1, 0);
         x.move(0, 4, 1);
         Check.due("p38 a leaf moved", 1, x.cellCount());
-        Check.due("p38 without facts", 0, bareStore().cellCount());
+        Check.due("p38 without facts", 0, Stores.withoutFacts().cellCount());
         EbbTable deep = deepStore();
         Check.due("p38 three levels up they are one", 1, deep.cellCount());
         deep.setLevel(0, 1);
         Check.due("p38 two levels up they are two", 2, deep.cellCount());
         Check.due("p38 without dimensions", 0, new EbbTable().cellCount());
         EbbTable four = fourDimensions();
-        setLevels(four, 3, 3, 3, 3);
+        Stores.setLevels(four, 3, 3, 3, 3);
         Check.due("p38 all different", 24, four.cellCount());
-        setLevels(four, 3, 0, 0, 0);
+        Stores.setLevels(four, 3, 0, 0, 0);
         Check.due("p38 four in dimension 0", 4, four.cellCount());
-        setLevels(four, 0, 0, 0, 3);
+        Stores.setLevels(four, 0, 0, 0, 3);
         Check.due("p38 two in dimension 3", 2, four.cellCount());
     }
 
@@ -1099,15 +1049,15 @@ public final class PromiseTest {
             }
         }
         for (int fact = 0; fact < 24; fact++) {
-            put(x, fact, 3 + fact % 4, 3 + fact / 4 % 3, 3, 3 + fact / 12);
+            Stores.put(x, fact, 3 + fact % 4, 3 + fact / 4 % 3, 3, 3 + fact / 12);
         }
         return x;
     }
 
     private static void p39() {
-        EbbTable x = store();
+        EbbTable x = Stores.small();
         for (int view = 0; view < 6; view++) {
-            setLevels(x, view % 3, 0);
+            Stores.setLevels(x, view % 3, 0);
             Check.due("p39 view " + view, view, x.keep());
             Check.due("p39 it has rows", view % 3 + 1, x.rowsOf(view));
             Check.due("p39 it is not stale", false, x.isStale(view));
@@ -1118,20 +1068,20 @@ public final class PromiseTest {
         EbbTable empty = new EbbTable();
         Check.due("p39 without dimensions", 0, empty.keep());
         Check.due("p39 it has no rows", 0, empty.rowsOf(0));
-        Check.due("p39 without facts", 0, bareStore().keep());
-        EbbTable y = store();
-        setLevels(y, 2, 1);
+        Check.due("p39 without facts", 0, Stores.withoutFacts().keep());
+        EbbTable y = Stores.small();
+        Stores.setLevels(y, 2, 1);
         y.keep();
-        setLevels(y, 1, 0);
+        Stores.setLevels(y, 1, 0);
         Check.due("p39 its LEVELS stay", 4, y.refresh(0));
     }
 
     private static void p40() {
-        EbbTable x = store();
+        EbbTable x = Stores.small();
         x.keep();
-        setLevels(x, 1, 0);
+        Stores.setLevels(x, 1, 0);
         x.keep();
-        setLevels(x, 1, 1);
+        Stores.setLevels(x, 1, 1);
         x.drop(4);
         x.keep();
         Check.due("p40 two are left", 2, x.dropView(0));
@@ -1143,7 +1093,7 @@ public final class PromiseTest {
         for (int far : FAR) {
             Check.refused("p40 view " + far, INDEX, x, () -> x.dropView(far));
         }
-        setLevels(x, 2, 1);
+        Stores.setLevels(x, 2, 1);
         x.keep();
         Check.due("p40 the last", 2, x.dropView(2));
         Check.due("p40 LEVELS moved up", 2, x.refresh(0));
@@ -1157,12 +1107,12 @@ public final class PromiseTest {
     }
 
     private static void p41() {
-        EbbTable x = store();
-        setLevels(x, 2, 1);
+        EbbTable x = Stores.small();
+        Stores.setLevels(x, 2, 1);
         x.keep();
-        setLevels(x, 0, 0);
+        Stores.setLevels(x, 0, 0);
         x.keep();
-        put(x, 3, 4, 1);
+        Stores.put(x, 3, 4, 1);
         Check.due("p41 rows are as they were", 4, x.rowsOf(0));
         Check.due("p41 it has one more", 5, x.refresh(0));
         Check.due("p41 rows are told so", 5, x.rowsOf(0));
@@ -1177,7 +1127,7 @@ public final class PromiseTest {
     }
 
     private static void p42() {
-        EbbTable x = store();
+        EbbTable x = Stores.small();
         Check.due("p42 none", 0, x.views());
         x.keep();
         x.keep();
@@ -1191,11 +1141,11 @@ public final class PromiseTest {
     }
 
     private static void p43() {
-        EbbTable x = store();
-        setLevels(x, 2, 1);
+        EbbTable x = Stores.small();
+        Stores.setLevels(x, 2, 1);
         x.keep();
         Check.due("p43 as it was kept", 4, x.rowsOf(0));
-        setLevels(x, 0, 0);
+        Stores.setLevels(x, 0, 0);
         x.drop(2);
         Check.due("p43 stale rows stay", 4, x.rowsOf(0));
         x.refresh(0);
@@ -1207,12 +1157,12 @@ public final class PromiseTest {
     }
 
     private static void p44() {
-        EbbTable x = store();
+        EbbTable x = Stores.small();
         x.keep();
         Check.due("p44 not at first", false, x.isStale(0));
         x.addMember(0, 0);
         x.leaveOut(0, 1, true);
-        goTo(x, 3, 1);
+        Stores.goTo(x, 3, 1);
         x.setLevel(0, 1);
         x.setAxes(0, 1, 1, 1);
         x.drill(0);
@@ -1222,7 +1172,7 @@ public final class PromiseTest {
         Check.refused("p44 a drop that is refused", INDEX, x, () -> x.drop(5));
         Check.refused("p44 an add that is refused", ARGUMENT, x, () -> x.add(10001));
         Check.due("p44 not by what is refused", false, x.isStale(0));
-        goTo(x, 3, 1);
+        Stores.goTo(x, 3, 1);
         x.add(1);
         Check.due("p44 by add", true, x.isStale(0));
         x.drop(5);
@@ -1252,18 +1202,18 @@ public final class PromiseTest {
     }
 
     private static void p45() {
-        EbbTable x = store();
+        EbbTable x = Stores.small();
         Check.due("p45 all facts", 5, x.cost());
-        setLevels(x, 1, 1);
+        Stores.setLevels(x, 1, 1);
         x.keep();
         Check.due("p45 by the view", 4, x.cost());
-        setLevels(x, 0, 1);
+        Stores.setLevels(x, 0, 1);
         Check.due("p45 a question above", 4, x.cost());
         x.keep();
         Check.due("p45 by the cheaper one", 3, x.cost());
-        setLevels(x, 2, 0);
+        Stores.setLevels(x, 2, 0);
         Check.due("p45 no view is that deep", 5, x.cost());
-        setLevels(x, 1, 0);
+        Stores.setLevels(x, 1, 0);
         Check.due("p45 one is deep enough", 4, x.cost());
         x.leaveOut(0, 0, true);
         Check.due("p45 of all facts", 4, x.cost());
@@ -1277,15 +1227,15 @@ public final class PromiseTest {
     }
 
     private static void p46() {
-        EbbTable x = store();
+        EbbTable x = Stores.small();
         Check.due("p46 all facts", -1, x.answeredBy());
-        setLevels(x, 2, 1);
+        Stores.setLevels(x, 2, 1);
         x.keep();
         Check.due("p46 the first", 0, x.answeredBy());
-        setLevels(x, 1, 1);
+        Stores.setLevels(x, 1, 1);
         x.keep();
         Check.due("p46 equal: the smaller number", 0, x.answeredBy());
-        setLevels(x, 0, 1);
+        Stores.setLevels(x, 0, 1);
         x.keep();
         Check.due("p46 the cheapest", 2, x.answeredBy());
         x.keep();
@@ -1298,7 +1248,7 @@ public final class PromiseTest {
         Check.due("p46 not cheaper than all facts", -1, x.answeredBy());
         x.refresh(2);
         Check.due("p46 refreshed", 2, x.answeredBy());
-        setLevels(x, 1, 0);
+        Stores.setLevels(x, 1, 0);
         Check.due("p46 not deep enough", -1, x.answeredBy());
         EbbTable empty = new EbbTable();
         empty.keep();
@@ -1306,46 +1256,46 @@ public final class PromiseTest {
     }
 
     private static void p47() {
-        EbbTable x = store();
+        EbbTable x = Stores.small();
         int[][] due = {{4, 4}, {6, 4}, {6, 6}};
         for (int first = 0; first <= 2; first++) {
             for (int second = 0; second <= 1; second++) {
-                setLevels(x, first, second);
+                Stores.setLevels(x, first, second);
                 Check.due("p47 LEVELS " + first + ", " + second, due[first][second], x.gain());
             }
         }
-        setLevels(x, 1, 0);
+        Stores.setLevels(x, 1, 0);
         x.keep();
         Check.due("p47 of what there is already", 0, x.gain());
-        setLevels(x, 0, 0);
+        Stores.setLevels(x, 0, 0);
         Check.due("p47 above it", 1, x.gain());
-        setLevels(x, 2, 0);
+        Stores.setLevels(x, 2, 0);
         Check.due("p47 one is cheaper without", 2, x.gain());
         x.drop(1);
         Check.due("p47 a stale view is none", 3, x.gain());
-        Check.due("p47 without facts", 0, bareStore().gain());
+        Check.due("p47 without facts", 0, Stores.withoutFacts().gain());
         Check.due("p47 without dimensions", 0, new EbbTable().gain());
     }
 
     private static void p48() {
-        EbbTable x = store();
+        EbbTable x = Stores.small();
         Check.due("p48 6 is the most", 6, x.advise());
         Check.due("p48 of 1, 0 and 2, 0 and 2, 1: in 0", 1, x.setLevel(0, 0));
         Check.due("p48 in 1", 0, x.setLevel(1, 1));
-        setLevels(x, 1, 0);
+        Stores.setLevels(x, 1, 0);
         x.keep();
         Check.due("p48 with a view", 4, x.advise());
         Check.due("p48 the LEVELS in 0", 2, x.setLevel(0, 2));
         Check.due("p48 the LEVELS in 1", 1, x.setLevel(1, 1));
         Check.due("p48 it is their gain", 4, x.gain());
-        EbbTable y = bareStore();
-        setLevels(y, 2, 1);
+        EbbTable y = Stores.withoutFacts();
+        Stores.setLevels(y, 2, 1);
         Check.due("p48 no gain", 0, y.advise());
         Check.due("p48 the smallest in 0", 0, y.setLevel(0, 0));
         Check.due("p48 the smallest in 1", 0, y.setLevel(1, 0));
         Check.due("p48 without dimensions", 0, new EbbTable().advise());
         EbbTable four = fourDimensions();
-        put(four, 1, 3, 3, 3, 3);
+        Stores.put(four, 1, 3, 3, 3, 3);
         int gain = four.advise();
         Check.due("p48 of four", gain, four.gain());
         int[] due = {2, 3, 3, 3};
@@ -1362,17 +1312,17 @@ public final class PromiseTest {
             due = due * 31 + v;
         }
         Check.due("p49 a new store", due, x.digest());
-        EbbTable y = store();
-        setLevels(y, 1, 0);
+        EbbTable y = Stores.small();
+        Stores.setLevels(y, 1, 0);
         y.keep();
         y.drop(4);
-        setLevels(y, 2, 1);
+        Stores.setLevels(y, 2, 1);
         y.keep();
         Check.due("p49 without axes", digestBy(y, false), y.digest());
         y.setAxes(1, 1, 0, 2);
         Check.due("p49 with axes", digestBy(y, true), y.digest());
         y.setBare(true);
-        goTo(y, 1, 0);
+        Stores.goTo(y, 1, 0);
         Check.due("p49 without bare lines", digestBy(y, true), y.digest());
         y.leaveOut(0, 3, true);
         Check.due("p49 less what is left out", digestBy(y, true), y.digest());

@@ -28,7 +28,21 @@ public final class RoomTest {
         long used = bytes() - before;
         Check.holds("a store of " + used + " bytes", used > 0 && used < MAX_BYTES_OF_A_STORE);
         Check.due("it is a new one", 0, one.dimensions());
+        lastCall();
         Check.end("RoomTest");
+    }
+
+    /** "An object is used for at most 512 calls": the 512th answers what an earlier one did. */
+    private static void lastCall() {
+        EbbTable x = Stores.small();
+        long due = x.digest();
+        int callsTillNow = 28;
+        for (int calls = callsTillNow; calls < CALLS - 2; calls += 2) {
+            x.goTo(0, 3);
+            x.goTo(0, 0);
+        }
+        Check.due("the 511th call", 5, x.facts());
+        Check.due("the 512th call", due, x.digest());
     }
 
     /** All that the document lets a store have. */
