@@ -33,33 +33,12 @@ final class Check {
         due(what + " changes", before, stateOf(x));
     }
 
-    /** All that the face tells of a store; what can only be read by setting it is set back. */
-    static String stateOf(EbbTable x) {
-        StringBuilder text = new StringBuilder();
-        text.append("digest ").append(x.digest());
-        for (int d = 0; d < x.dimensions(); d++) {
-            int level = x.setLevel(d, 0);
-            x.setLevel(d, level);
-            text.append("; dimension ").append(d).append(" on level ").append(level);
-            text.append(" at ").append(x.pointOf(d)).append(" members");
-            for (int m = 0; m < x.members(d); m++) {
-                boolean isOut = x.leaveOut(d, m, true);
-                x.leaveOut(d, m, isOut);
-                text.append(' ').append(x.parentOf(d, m)).append(isOut ? "-" : "+");
-            }
-        }
+    /** What few calls tell of a store that goes on being used (it has 512); Twins read to the ground. */
+    private static String stateOf(EbbTable x) {
         boolean isBare = x.setBare(false);
-        text.append("; bare ").append(isBare).append(" axes ").append(axesOf(x));
+        String text = "digest " + x.digest() + " bare " + isBare;
         x.setBare(isBare);
-        return text.append("; facts ").append(x.facts()).toString();
-    }
-
-    private static String axesOf(EbbTable x) {
-        try {
-            return x.rows() + " by " + x.columns();
-        } catch (IllegalStateException e) {
-            return "none";
-        }
+        return text;
     }
 
     static void end(String name) {

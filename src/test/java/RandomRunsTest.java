@@ -2,18 +2,20 @@ import java.lang.reflect.InvocationTargetException;
 import java.lang.reflect.Method;
 import java.util.ArrayList;
 import java.util.Arrays;
+import java.util.Collections;
 import java.util.List;
 import java.util.Random;
 
 /**
  * Runs of 512 calls, chosen by fixed seeds, on the program and on the model: each call answers the same, or
- * throws the same. Every 32 calls all that can be asked is asked of both, so that a change that a call made
- * but should not have made is found too.
+ * throws the same. Now and then both tell their digest, and the last calls of a run are questions, drawn from
+ * all that can be asked, so that a change that a call made but should not have made is found too.
  */
 public final class RandomRunsTest {
-    private static final int RUNS = 300;
+    private static final int RUNS = 1500;
     private static final int CALLS = 512;
-    private static final int CALLS_BETWEEN_SWEEPS = 32;
+    private static final int CALLS_BETWEEN_DIGESTS = 8;
+    private static final int FEWEST_QUESTIONS = 40;
     private static final int MAX_PRINTED = 20;
 
     private final Random random;
@@ -21,6 +23,7 @@ public final class RandomRunsTest {
     private final EbbTable program = new EbbTable();
     private final Model model = new Model();
     private final List<String> trail = new ArrayList<>();
+    private final List<Object[]> questions = new ArrayList<>();
     private boolean isSame = true;
     private static int printed = 0;
     private static int refusals = 0;
@@ -44,13 +47,14 @@ public final class RandomRunsTest {
         if (run % 4 != 0) {
             furnish();
         }
-        for (int call = trail.size(); call < CALLS && isSame; call++) {
+        int change = CALLS - FEWEST_QUESTIONS - random.nextInt(100);
+        for (int call = 0; trail.size() < change && isSame; call++) {
             randomCall();
-            if (call % CALLS_BETWEEN_SWEEPS == 0) {
-                sweep();
+            if (call % CALLS_BETWEEN_DIGESTS == 0) {
+                both("digest");
             }
         }
-        sweep();
+        askTillTheLastCall();
     }
 
     /** Dimensions, members and facts ahead of the random calls, so that these have something to work on. */
@@ -189,51 +193,62 @@ public final class RandomRunsTest {
         return isOff ? off[random.nextInt(off.length)] : random.nextInt(size);
     }
 
-    private void sweep() {
-        for (String name : new String[] {"dimensions", "facts", "count", "sum", "least", "greatest", "mean", "rows",
-            "columns", "cellCount", "views", "cost", "answeredBy", "gain", "digest"}) {
-            both(name);
-        }
+    private void askTillTheLastCall() {
+        questionsOfAll();
         for (int d = -1; d <= model.dimensions(); d++) {
-            sweepDimension(d);
+            questionsOfDimension(d);
         }
-        for (int line = -1; line < 26; line += line < 2 ? 1 : 7) {
-            for (String name : new String[] {"rowMember", "columnMember", "peak"}) {
-                both(name, line);
+        Collections.shuffle(questions, random);
+        for (Object[] question : questions) {
+            if (trail.size() < CALLS) {
+                both((String) question[0], Arrays.copyOfRange(question, 1, question.length));
             }
-            both("cell", line, line / 2);
-        }
-        for (int view = -1; view <= model.views(); view++) {
-            both("rowsOf", view);
-            both("isStale", view);
-        }
-        while (trail.size() > CALLS * 2) {
-            trail.remove(0);
         }
     }
 
-    private void sweepDimension(int d) {
-        both("members", d);
-        both("pointOf", d);
-        both("children", d);
+    private void question(Object... nameAndArguments) {
+        questions.add(nameAndArguments);
+    }
+
+    private void questionsOfAll() {
+        for (String name : new String[] {"dimensions", "facts", "count", "sum", "least", "greatest", "mean", "rows",
+            "columns", "cellCount", "views", "cost", "answeredBy", "gain", "digest"}) {
+            question(name);
+        }
+        for (int line = -1; line < 26; line += line < 2 ? 1 : 7) {
+            for (String name : new String[] {"rowMember", "columnMember", "peak"}) {
+                question(name, line);
+            }
+            question("cell", line, line / 2);
+        }
+        for (int view = -1; view <= model.views(); view++) {
+            question("rowsOf", view);
+            question("isStale", view);
+        }
+    }
+
+    private void questionsOfDimension(int d) {
+        question("members", d);
+        question("pointOf", d);
+        question("children", d);
         int members = d >= 0 && d < model.dimensions() ? model.members(d) : 1;
         for (int m = -1; m <= members; m++) {
-            both("parentOf", d, m);
-            both("levelOf", d, m);
+            question("parentOf", d, m);
+            question("levelOf", d, m);
         }
         for (int level = -1; level < 5; level++) {
             for (int place = -1; place < 25; place += 5) {
-                both("memberAt", d, level, place);
+                question("memberAt", d, level, place);
             }
         }
         int children = childrenOf(d);
         for (int child = -1; child <= children; child++) {
             for (String name : new String[] {"sumOf", "ranked", "running", "share"}) {
-                both(name, d, child);
+                question(name, d, child);
             }
         }
         for (int part : new int[] {0, 1, 500, 999, 1000, 1001}) {
-            both("fewest", d, part);
+            question("fewest", d, part);
         }
     }
 

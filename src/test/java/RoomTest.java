@@ -1,27 +1,32 @@
 import java.lang.management.ManagementFactory;
 import java.util.function.Consumer;
 
-/** A run of 512 calls lives in one room: no call makes objects, and a new store is a small one. */
+/**
+ * All calls of a run live in one room of 600,000 objects and 7.3 million fields: as many calls of the dearest
+ * kinds as a full store has left stay in their part of it, and a new store is a small one.
+ */
 public final class RoomTest {
     private static final int CALLS = 512;
-    private static final int MAX_BYTES_OF_A_RUN = 100_000;
-    private static final int MAX_BYTES_OF_A_STORE = 10_000;
+    private static final int CALLS_OF_A_KIND = 250;
+    private static final int OBJECTS = 600_000;
+    private static final int BYTES_OF_THE_SMALLEST_OBJECT = 16;
+    private static final int MAX_BYTES_OF_THESE = OBJECTS / CALLS * CALLS_OF_A_KIND * BYTES_OF_THE_SMALLEST_OBJECT;
+    private static final int MAX_BYTES_OF_A_STORE = 20_000;
 
     private RoomTest() {
     }
 
     public static void main(String[] args) {
-        EbbTable x = dearest();
-        stays("digest", x, EbbTable::digest);
-        stays("advise", x, EbbTable::advise);
-        stays("cell", x, y -> y.cell(19, 19));
-        stays("peak", x, y -> y.peak(19));
-        stays("fewest", x, y -> y.fewest(0, 1000));
-        stays("drill", x, y -> y.drill(1));
-        stays("gain", x, EbbTable::gain);
-        stays("refresh", x, y -> y.refresh(5));
-        stays("memberAt", x, y -> y.memberAt(0, 3, 19));
-        stays("move", x, y -> y.move(0, 3, 2));
+        stays("digest", EbbTable::digest);
+        stays("advise", EbbTable::advise);
+        stays("cell", x -> x.cell(20, 20));
+        stays("peak", x -> x.peak(20));
+        stays("fewest", x -> x.fewest(0, 1000));
+        stays("drill", x -> x.drill(1));
+        stays("gain", EbbTable::gain);
+        stays("refresh", x -> x.refresh(5));
+        stays("memberAt", x -> x.memberAt(0, 3, 20));
+        stays("move", x -> x.move(0, 3, 2));
         new EbbTable();
         long before = bytes();
         EbbTable one = new EbbTable();
@@ -45,42 +50,18 @@ public final class RoomTest {
         Check.due("the 512th call", due, x.digest());
     }
 
-    /** All that the document lets a store have. */
-    private static EbbTable dearest() {
-        EbbTable x = new EbbTable();
-        for (int d = 0; d < 4; d++) {
-            x.addDimension(3);
-            x.addMember(d, 0);
-            x.addMember(d, 1);
-            for (int leaf = 3; leaf < 24; leaf++) {
-                x.addMember(d, 2);
-            }
-        }
-        for (int fact = 0; fact < 80; fact++) {
-            for (int d = 0; d < 4; d++) {
-                x.goTo(d, 3 + (fact * (d + 1) + d) % 21);
-            }
-            x.add(fact * 100);
-        }
-        for (int d = 0; d < 4; d++) {
-            x.goTo(d, 0);
-            x.setLevel(d, 3);
-        }
-        x.setAxes(0, 3, 1, 3);
-        for (int view = 0; view < 6; view++) {
-            x.keep();
-        }
-        return x;
-    }
-
-    private static void stays(String name, EbbTable x, Consumer<EbbTable> call) {
+    /** Each kind has a full store of its own, for this takes half of the 512 calls to make. */
+    private static void stays(String name, Consumer<EbbTable> call) {
+        EbbTable x = Stores.full();
+        Stores.goTo(x, 0, 0, 0, 0);
         call.accept(x);
         long before = bytes();
-        for (int i = 0; i < CALLS; i++) {
+        for (int i = 0; i < CALLS_OF_A_KIND; i++) {
             call.accept(x);
         }
         long used = bytes() - before;
-        Check.holds(name + " makes " + used + " bytes in " + CALLS + " calls", used < MAX_BYTES_OF_A_RUN);
+        String what = name + " makes " + used + " bytes in " + CALLS_OF_A_KIND + " calls";
+        Check.holds(what, used < MAX_BYTES_OF_THESE);
     }
 
     private static long bytes() {

@@ -100,6 +100,18 @@ final class Stores {
         return x;
     }
 
+    /** The full store with members left out, bare lines out, the POINT not at leaves, and LEVELS of no view. */
+    static EbbTable crammed() {
+        EbbTable x = full();
+        for (int d = 0; d < 4; d++) {
+            x.leaveOut(d, 4 + d, true);
+        }
+        x.setBare(true);
+        goTo(x, 2, 0, 1, 0);
+        setLevels(x, 1, 2, 0, 3);
+        return x;
+    }
+
     /** One dimension of one level with as many leaves. */
     static EbbTable wide(int leaves) {
         EbbTable x = withLevels(1);

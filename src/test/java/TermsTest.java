@@ -12,6 +12,7 @@ public final class TermsTest {
         tables();
         views();
         whatIsRefused();
+        whatOnlyAsks();
         Doc.isTested(Doc.TERMS, Doc.TERMS);
         Check.end("TermsTest");
     }
@@ -61,6 +62,12 @@ public final class TermsTest {
     private static void whatIsRefused() {
         whatThrowsChangesNothing();
         theExceptionNamedFirstIsThrown();
+    }
+
+    private static void whatOnlyAsks() {
+        questionsChangeNothing();
+        questionsOfATableChangeNothing();
+        whatHasNoFurtherToGoChangesNothing();
     }
 
     // ---- numbers
@@ -754,10 +761,11 @@ public final class TermsTest {
         unchangedBy("setLevel", Twins.INDEX, x -> x.setLevel(1, 2));
         unchangedBy("dropView", Twins.INDEX, x -> x.dropView(2));
         unchangedBy("refresh", Twins.INDEX, x -> x.refresh(2));
-        Twins.refused("addDimension to a full store", Twins.STATE, Stores::full, x -> x.addDimension(1));
-        Twins.refused("addMember to a full store", Twins.STATE, Stores::full, x -> x.addMember(3, 0));
+        Twins.refused("addDimension to a full store", Twins.STATE, Stores::crammed, x -> x.addDimension(1));
+        Twins.refused("addDimension of no levels", Twins.ARGUMENT, Stores::crammed, x -> x.addDimension(0));
+        Twins.refused("addMember to a full store", Twins.STATE, Stores::crammed, x -> x.addMember(3, 0));
         Twins.refused("add to a full store", Twins.STATE, TermsTest::fullAtLeaves, x -> x.add(1));
-        Twins.refused("keep in a full store", Twins.STATE, Stores::full, EbbTable::keep);
+        Twins.refused("keep in a full store", Twins.STATE, Stores::crammed, EbbTable::keep);
         Twins.refused("setAxes that are the first", Twins.ARGUMENT, Stores::small, x -> x.setAxes(0, 1, 0, 1));
     }
 
@@ -780,5 +788,71 @@ public final class TermsTest {
         Twins.refused("columnMember", Twins.STATE, Stores::small, x -> x.columnMember(-1));
         Twins.refused("cell", Twins.STATE, Stores::small, x -> x.cell(-1, 24));
         Twins.refused("peak", Twins.STATE, Stores::small, x -> x.peak(24));
+    }
+
+    // ---- what only asks
+
+    private static void questionsChangeNothing() {
+        asks("dimensions", EbbTable::dimensions);
+        asks("members", x -> x.members(0));
+        asks("parentOf", x -> x.parentOf(0, 2));
+        asks("levelOf", x -> x.levelOf(0, 2));
+        asks("memberAt", x -> x.memberAt(0, 2, 1));
+        asks("pointOf", x -> x.pointOf(0));
+        asks("facts", EbbTable::facts);
+        asks("count", EbbTable::count);
+        asks("sum", EbbTable::sum);
+        asks("least", EbbTable::least);
+        asks("greatest", EbbTable::greatest);
+        asks("mean", EbbTable::mean);
+        asks("children", x -> x.children(0));
+        asks("sumOf", x -> x.sumOf(0, 0));
+        asks("ranked", x -> x.ranked(0, 0));
+        asks("running", x -> x.running(0, 0));
+        asks("share", x -> x.share(0, 0));
+        asks("fewest", x -> x.fewest(0, 500));
+        asks("cellCount", EbbTable::cellCount);
+        asks("views", EbbTable::views);
+        asks("cost", EbbTable::cost);
+        asks("answeredBy", EbbTable::answeredBy);
+        asks("gain", EbbTable::gain);
+        asks("digest", EbbTable::digest);
+    }
+
+    /** Of a store with axes and views, and of one with neither. */
+    private static void asks(String what, Consumer<EbbTable> call) {
+        Twins.onlyAsks(what, Stores::furnished, call);
+        Twins.onlyAsks(what + " without axes", TermsTest::bareWithoutAxes, call);
+    }
+
+    private static EbbTable bareWithoutAxes() {
+        EbbTable x = Stores.small();
+        x.setBare(true);
+        x.leaveOut(0, 2, true);
+        Stores.setLevels(x, 1, 1);
+        return x;
+    }
+
+    private static void questionsOfATableChangeNothing() {
+        Twins.onlyAsks("rows", Stores::furnished, EbbTable::rows);
+        Twins.onlyAsks("columns", Stores::furnished, EbbTable::columns);
+        Twins.onlyAsks("rowMember", Stores::furnished, x -> x.rowMember(0));
+        Twins.onlyAsks("columnMember", Stores::furnished, x -> x.columnMember(1));
+        Twins.onlyAsks("cell", Stores::furnished, x -> x.cell(0, 1));
+        Twins.onlyAsks("peak", Stores::furnished, x -> x.peak(0));
+        Twins.onlyAsks("rowsOf", Stores::furnished, x -> x.rowsOf(0));
+        Twins.onlyAsks("isStale of a STALE one", Stores::furnished, x -> x.isStale(0));
+        Twins.onlyAsks("isStale of another", Stores::furnished, x -> x.isStale(1));
+    }
+
+    private static void whatHasNoFurtherToGoChangesNothing() {
+        Twins.onlyAsks("goUp at the root", Stores::furnished, x -> x.goUp(1));
+        Twins.onlyAsks("drill at a leaf", TermsTest::furnishedAtALeaf, x -> x.drill(0));
+    }
+
+    private static EbbTable furnishedAtALeaf() {
+        EbbTable x = Stores.furnished();
+        x.goTo(0, 3);
+        return x;
     }
 }

@@ -3,8 +3,9 @@ import java.util.function.ObjIntConsumer;
 import java.util.function.Supplier;
 
 /**
- * Refused calls, each made on one of two stores that were made alike: they must be alike afterwards. Because
- * both are thrown away, they can be read to the ground: what is beneath all facts and views is seen too.
+ * Refused calls and questions, each made on one of two stores that were made alike: they must be alike
+ * afterwards. Because both are thrown away, they can be read to the ground: what is beneath all facts and views
+ * is seen too.
  */
 final class Twins {
     static final Class<IndexOutOfBoundsException> INDEX = IndexOutOfBoundsException.class;
@@ -15,9 +16,19 @@ final class Twins {
     }
 
     static void refused(String what, Class<?> want, Supplier<EbbTable> made, Consumer<EbbTable> call) {
+        changesNothing(what, want.getName(), made, call);
+    }
+
+    /** The call answers, and leaves the store as it was. */
+    static void onlyAsks(String what, Supplier<EbbTable> made, Consumer<EbbTable> call) {
+        changesNothing(what, "nothing", made, call);
+    }
+
+    private static void changesNothing(String what, String throwing, Supplier<EbbTable> made,
+            Consumer<EbbTable> call) {
         EbbTable tried = made.get();
         EbbTable untouched = made.get();
-        Check.due(what + " throws", want.getName(), thrownBy(tried, call));
+        Check.due(what + " throws", throwing, thrownBy(tried, call));
         Check.due(what + " changes", read(untouched), read(tried));
     }
 
@@ -48,7 +59,10 @@ final class Twins {
     /** All that can be found out about a store, in some 220 calls at most; it is spent afterwards. */
     private static String read(EbbTable x) {
         StringBuilder text = new StringBuilder();
-        text.append("digest ").append(x.digest()).append("; bare ").append(x.setBare(false));
+        boolean isBare = x.setBare(false);
+        x.setBare(isBare);
+        text.append("bare ").append(isBare).append("; digest ").append(x.digest());
+        x.setBare(false);
         text.append("; with bare lines ").append(x.digest()).append("; left out");
         int dimensions = x.dimensions();
         for (int d = 0; d < dimensions; d++) {
